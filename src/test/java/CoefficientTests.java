@@ -130,11 +130,26 @@ final class CoefficientTests {
         x.setting(2, 8);
         Check.due("layerOf with the greatest boost", x.layerOf(0, 1, 1, 0), 0);
         Check.due("masked coefficients", x.tile(0, 6), 3);
+        layerOfInOtherTiles();
         Check.refused("layerOf plane 9", ARGUMENT, () -> x.layerOf(0, 0, 0, 9));
         Check.refused("layerOf plane -1", ARGUMENT, () -> x.layerOf(0, 0, 0, -1));
         Check.refused("layerOf 1", INDEX, () -> x.layerOf(1, 0, 0, 0));
         Check.refused("layerOf column 3", INDEX, () -> x.layerOf(0, 3, 0, 0));
         Check.refused("layerOf row 2: the place comes first", INDEX, () -> x.layerOf(0, 0, 2, 9));
+    }
+
+    private static void layerOfInOtherTiles() {
+        WaveletTiler x = new WaveletTiler();
+        x.setting(2, 1);
+        x.mask(6, 5, 6, 5, true);
+        StringBuilder layers = new StringBuilder();
+        for (int row = 0; row < 4; row++) {
+            for (int column = 0; column < 4; column++) {
+                layers.append(x.layerOf(3, column, row, 0));
+            }
+        }
+        Check.due("layers of tile 3", layers.toString(), "7787778887878888");
+        Check.due("masked coefficients of tile 0", x.tile(0, 6), 0);
     }
 
     private static void promise17Bits() {
@@ -167,6 +182,18 @@ final class CoefficientTests {
         Check.due("descendants smooth with one level", x.descendants(0, 3, 3), 3);
         x.setting(1, 0);
         Check.due("descendants without levels", x.descendants(0, 0, 0), 0);
+        x.setting(1, 2);
+        Check.due("descendants down", x.descendants(0, 0, 2), 4);
+        Check.due("descendants cross", x.descendants(0, 2, 2), 4);
+        x.size(6, 5);
+        Check.due("descendants in 6 by 5, smooth", x.descendants(0, 0, 0), 15);
+        Check.due("descendants in 6 by 5, smooth without cross or down", x.descendants(0, 1, 1), 0);
+        Check.due("descendants in 6 by 5, across", x.descendants(0, 2, 0), 4);
+        Check.due("descendants in 6 by 5, lower across", x.descendants(0, 2, 1), 2);
+        Check.due("descendants in 6 by 5, down", x.descendants(0, 0, 2), 4);
+        Check.due("descendants in 6 by 5, second down", x.descendants(0, 1, 2), 2);
+        Check.due("descendants in 6 by 5, cross", x.descendants(0, 2, 2), 4);
+        Check.due("descendants in 6 by 5, without a parent", x.descendants(0, 5, 0), 0);
         WaveletTiler y = small();
         int[] odd = {2, 1, 0, 0, 0, 0};
         for (int i = 0; i < 6; i++) {
@@ -189,6 +216,12 @@ final class CoefficientTests {
         x.setting(0, 8);
         x.setting(1, 3);
         Check.due("roots of a black tile", x.roots(0, 0), 1);
+        x.set(1, 0, 1);
+        x.fill(2, 1, 3, 1, 1);
+        Check.due("roots below three loud branches", x.roots(0, 0), 18);
+        Check.due("roots at the plane above", x.roots(0, 1), 1);
+        x.size(6, 5);
+        Check.due("roots of a black tile of 6 by 5", x.roots(0, 0), 6);
         Check.refused("roots 0 10", ARGUMENT, () -> x.roots(0, 10));
         Check.refused("roots 0 -1", ARGUMENT, () -> x.roots(0, -1));
         Check.refused("roots 1", INDEX, () -> x.roots(1, 0));
@@ -206,6 +239,23 @@ final class CoefficientTests {
         Check.due("needed 0 0", y.needed(0, 0), 5);
         Check.due("needed 1 1", y.needed(1, 1), 5);
         Check.due("needed 2 0", y.needed(2, 0), 3);
+        y.size(2, 5);
+        y.setting(0, 8);
+        y.setting(1, 3);
+        int[] tall = {6, 6, 6, 6, 3};
+        for (int row = 0; row < 5; row++) {
+            Check.due("needed in a tile of 2 by 5, row " + row, y.needed(1, row), tall[row]);
+        }
+        y.size(5, 2);
+        for (int column = 0; column < 5; column++) {
+            Check.due("needed in a tile of 5 by 2, column " + column, y.needed(column, 1), tall[column]);
+        }
+        y.setting(0, 4);
+        y.setting(1, 2);
+        y.size(7, 7);
+        Check.due("needed in the last tile", y.needed(5, 6), 5);
+        Check.due("needed in the last tile, its last pixel", y.needed(6, 6), 4);
+        Check.due("needed in the last tile, its first pixel", y.needed(4, 4), 7);
         y.size(5, 5);
         Check.due("needed in a tile of one pixel", y.needed(4, 4), 1);
         Check.due("needed in a tile of 1 by 4", y.needed(4, 0), 3);

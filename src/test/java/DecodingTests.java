@@ -9,12 +9,14 @@ final class DecodingTests {
     public static void main(String[] args) {
         promise21Decoded();
         promise21DecodedWithMask();
+        promise21DecodedInOtherTiles();
         promise22Worst();
         promise22Bound();
         promise23MeanSquare();
         promise24Plan();
         promise24PlanOfEqualTiles();
         promise24PlanEnds();
+        promise24PlanOfManyTiles();
         promise25Planned();
         Check.end("DecodingTests");
     }
@@ -63,6 +65,28 @@ final class DecodingTests {
         dueDecoded(x, 0, 0, 0, 0, 0, 0, 0);
     }
 
+    private static void promise21DecodedInOtherTiles() {
+        WaveletTiler x = new WaveletTiler();
+        x.size(10, 10);
+        x.setting(0, 8);
+        x.setting(1, 1);
+        x.fill(8, 9, 9, 9, 255);
+        Check.due("decoded 2 8 8: cut to 0", x.decoded(2, 8, 8), 0);
+        Check.due("decoded 2 9 9", x.decoded(2, 9, 9), 64);
+        Check.due("decoded 3 8 8", x.decoded(3, 8, 8), 0);
+        Check.due("decoded 3 9 9", x.decoded(3, 9, 9), 160);
+        Check.due("decoded 9 0 0", x.decoded(9, 0, 0), 0);
+        for (int i = 0; i < 64; i++) {
+            x.set(i % 8, i / 8, i * i % 251);
+        }
+        for (int levels = 0; levels <= 3; levels++) {
+            x.setting(1, levels);
+            for (int i = 0; i < 64; i++) {
+                Check.due("decoded 9, pixel " + i, x.decoded(9, i % 8, i / 8), i * i % 251);
+            }
+        }
+    }
+
     private static void promise22Worst() {
         WaveletTiler x = small();
         int[] layers = {0, 1, 2, 8, 9};
@@ -90,6 +114,15 @@ final class DecodingTests {
         x.mask(0, 0, 2, 1, false);
         x.setting(1, 0);
         Check.due("bound without levels", x.worst(3, 0, true), 63);
+        x.setting(1, 2);
+        x.size(5, 5);
+        Check.due("bound of one pixel", x.worst(6, 3, true), 7);
+        Check.due("bound of one pixel without layers", x.worst(0, 3, true), 255);
+        x.size(4, 2);
+        x.setting(2, 3);
+        x.mask(0, 0, 0, 0, true);
+        // The smooth one and across of level 2 have 1, as the masked ones of level 1; the other ones have 15.
+        Check.due("bound of a tile that is masked in part", x.worst(5, 0, true), 22);
     }
 
     private static void promise23MeanSquare() {
@@ -159,6 +192,20 @@ final class DecodingTests {
         x.mask(2, 0, 3, 1, true);
         duePlan(x, 9999, 9959, 0, 1);
         duePlan(x, 39, 39, 0, 0);
+    }
+
+    private static void promise24PlanOfManyTiles() {
+        WaveletTiler x = new WaveletTiler();
+        x.size(16, 16);
+        x.setting(0, 2);
+        x.setting(1, 0);
+        x.fill(0, 0, 15, 15, 1);
+        Check.due("plan of 64 tiles", x.plan(9999), 9999 - 64 * 40);
+        Check.due("planned 0", x.planned(0), 9);
+        Check.due("planned 63", x.planned(63), 9);
+        Check.due("plan of all but a bit", x.plan(64 * 40 - 1), 7);
+        Check.due("planned 62", x.planned(62), 9);
+        Check.due("planned 63", x.planned(63), 8);
     }
 
     private static void promise25Planned() {

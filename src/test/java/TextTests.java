@@ -52,6 +52,11 @@ final class TextTests {
         x.undo();
         Check.due("undone read: the values", x.number(7), 0);
         Check.due("undone read: the side", x.number(2), 4);
+        feed(x, "maAbB;uaAaA");
+        Check.due("read two masks", x.read(), 2);
+        Check.due("read two masks: the mask", x.number(6), 3);
+        x.undo();
+        Check.due("undone read: the mask", x.number(6), 0);
         feed(x, "raAhH=ff;raAaA=0a");
         Check.due("read two fills", x.read(), 2);
         Check.due("read: items in their order", x.number(7), 63 * 255 + 10);

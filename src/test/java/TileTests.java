@@ -43,6 +43,13 @@ final class TileTests {
         Check.due("tile 4: numbers", numbersOf(x, 4), "4 4 4 2 2 4 8 1 80 ");
         Check.due("tile 5: numbers", numbersOf(x, 5), "8 4 1 2 1 1 2 2 3 ");
         Check.due("tile 0: numbers", numbersOf(x, 0), "0 0 4 4 2 4 10 0 0 ");
+        x.size(2, 7);
+        x.setting(0, 2);
+        Check.due("tile 0 of one across", numbersOf(x, 0), "0 0 2 2 1 0 0 0 0 ");
+        Check.due("tile 2 of one across", numbersOf(x, 2), "0 4 2 2 1 0 0 0 0 ");
+        Check.due("tile 3 of one across", numbersOf(x, 3), "0 6 2 1 1 0 0 0 0 ");
+        x.undo();
+        x.undo();
         Check.refused("tile 6", INDEX, () -> x.tile(6, 0));
         Check.refused("tile -1", INDEX, () -> x.tile(-1, 0));
         Check.refused("tile 0 -1", ARGUMENT, () -> x.tile(0, -1));
@@ -142,6 +149,13 @@ final class TileTests {
         x.undo();
         x.undo();
         Check.due("undone swap", x.pixel(3, 3), 7);
+        x.set(4, 0, 1);
+        x.set(7, 0, 2);
+        x.set(4, 3, 3);
+        Check.due("swap 1 0", x.swap(1, 0), 16);
+        Check.due("swap: the first row of the first", x.pixel(4, 0) + x.pixel(7, 0), 14);
+        Check.due("swap: the first row of the other", 10 * x.pixel(0, 0) + x.pixel(3, 0), 12);
+        Check.due("swap: the last row of the other", 10 * x.pixel(0, 3) + x.pixel(3, 3), 30);
     }
 
     private static void promise12SwapRefused() {
