@@ -469,7 +469,7 @@ public final class WaveletTiler {
         work.load(picture, tile);
         int layers = at(latestPlan.layers, tile);
         put(latestPlan.differences, tile, work.greatestDifference(layers));
-        put(latestPlan.costs, tile, layers < LAYERS ? work.bitTotal(layers) : 0);
+        put(latestPlan.costs, tile, work.bitTotal(layers));
     }
 
     private static boolean isBetween(int number, int least, int most) {

@@ -17,17 +17,6 @@ final class CoefficientTests {
         Check.end("CoefficientTests");
     }
 
-    /** An image of 3 columns and 2 rows, one tile with 2 levels, whose coefficients are 65 -125 -2 and 6 253 -2. */
-    private static WaveletTiler small() {
-        WaveletTiler x = new WaveletTiler();
-        x.size(3, 2);
-        int[] values = {5, 8, 255, 0, 1, 2};
-        for (int i = 0; i < 6; i++) {
-            x.set(i % 3, i / 3, values[i]);
-        }
-        return x;
-    }
-
     private static void dueRow(WaveletTiler x, int tile, int row, int... due) {
         for (int column = 0; column < due.length; column++) {
             Check.due("coefficient " + tile + " " + column + " " + row, x.coefficient(tile, column, row), due[column]);
@@ -60,7 +49,7 @@ final class CoefficientTests {
     }
 
     private static void promise14OddAreas() {
-        WaveletTiler x = small();
+        WaveletTiler x = Images.small();
         dueRow(x, 0, 0, 65, -125, -2);
         dueRow(x, 0, 1, 6, 253, -2);
         x.setting(1, 1);
@@ -103,7 +92,7 @@ final class CoefficientTests {
         Check.due("band with one level", x.band(0, 3, 3), 0);
         x.setting(1, 0);
         Check.due("band without levels", x.band(0, 7, 7), 0);
-        WaveletTiler y = small();
+        WaveletTiler y = Images.small();
         int[] odd = {0, 21, 11, 12, 12, 13};
         for (int i = 0; i < 6; i++) {
             Check.due("band of an odd area " + i, y.band(0, i % 3, i / 3), odd[i]);
@@ -115,7 +104,7 @@ final class CoefficientTests {
     }
 
     private static void promise16LayerOf() {
-        WaveletTiler x = small();
+        WaveletTiler x = Images.small();
         Check.due("layerOf plane 8", x.layerOf(0, 0, 0, 8), 0);
         Check.due("layerOf plane 0", x.layerOf(0, 2, 1, 0), 8);
         x.setting(2, 3);
@@ -153,7 +142,7 @@ final class CoefficientTests {
     }
 
     private static void promise17Bits() {
-        WaveletTiler x = small();
+        WaveletTiler x = Images.small();
         int[] due = {60, 6, 7, 8, 6, 6, 6, 7, 8, 6};
         for (int layer = -1; layer <= 8; layer++) {
             Check.due("bits 0 " + layer, x.bits(0, layer), due[layer + 1]);
@@ -194,7 +183,7 @@ final class CoefficientTests {
         Check.due("descendants in 6 by 5, second down", x.descendants(0, 1, 2), 2);
         Check.due("descendants in 6 by 5, cross", x.descendants(0, 2, 2), 4);
         Check.due("descendants in 6 by 5, without a parent", x.descendants(0, 5, 0), 0);
-        WaveletTiler y = small();
+        WaveletTiler y = Images.small();
         int[] odd = {2, 1, 0, 0, 0, 0};
         for (int i = 0; i < 6; i++) {
             Check.due("descendants in an odd area " + i, y.descendants(0, i % 3, i / 3), odd[i]);
@@ -205,7 +194,7 @@ final class CoefficientTests {
     }
 
     private static void promise19Roots() {
-        WaveletTiler x = small();
+        WaveletTiler x = Images.small();
         int[] due = {0, 0, 2, 3, 3, 3, 3, 3, 4, 4};
         for (int plane = 0; plane < 10; plane++) {
             Check.due("roots 0 " + plane, x.roots(0, plane), due[plane]);
@@ -235,7 +224,7 @@ final class CoefficientTests {
         Check.due("needed 7 7", x.needed(7, 7), 10);
         x.setting(1, 0);
         Check.due("needed without levels", x.needed(7, 7), 1);
-        WaveletTiler y = small();
+        WaveletTiler y = Images.small();
         Check.due("needed 0 0", y.needed(0, 0), 5);
         Check.due("needed 1 1", y.needed(1, 1), 5);
         Check.due("needed 2 0", y.needed(2, 0), 3);

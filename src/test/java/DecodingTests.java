@@ -21,17 +21,6 @@ final class DecodingTests {
         Check.end("DecodingTests");
     }
 
-    /** An image of 3 columns and 2 rows, one tile with 2 levels, whose coefficients are 65 -125 -2 and 6 253 -2. */
-    private static WaveletTiler small() {
-        WaveletTiler x = new WaveletTiler();
-        x.size(3, 2);
-        int[] values = {5, 8, 255, 0, 1, 2};
-        for (int i = 0; i < 6; i++) {
-            x.set(i % 3, i / 3, values[i]);
-        }
-        return x;
-    }
-
     private static void dueDecoded(WaveletTiler x, int layers, int... due) {
         for (int i = 0; i < 6; i++) {
             Check.due("decoded " + layers + ", pixel " + i, x.decoded(layers, i % 3, i / 3), due[i]);
@@ -39,7 +28,7 @@ final class DecodingTests {
     }
 
     private static void promise21Decoded() {
-        WaveletTiler x = small();
+        WaveletTiler x = Images.small();
         dueDecoded(x, 0, 0, 0, 0, 0, 0, 0);
         dueDecoded(x, 1, 0, 0, 0, 0, 0, 0);
         dueDecoded(x, 2, 0, 0, 64, 0, 0, 0);
@@ -55,7 +44,7 @@ final class DecodingTests {
     }
 
     private static void promise21DecodedWithMask() {
-        WaveletTiler x = small();
+        WaveletTiler x = Images.small();
         x.setting(2, 8);
         x.mask(2, 1, 2, 1, true);
         // 65, -125 and 253 are whole with one layer; -2, 6 and -2 have nothing.
@@ -88,7 +77,7 @@ final class DecodingTests {
     }
 
     private static void promise22Worst() {
-        WaveletTiler x = small();
+        WaveletTiler x = Images.small();
         int[] layers = {0, 1, 2, 8, 9};
         int[] due = {255, 255, 191, 3, 0};
         for (int i = 0; i < layers.length; i++) {
@@ -102,7 +91,7 @@ final class DecodingTests {
     }
 
     private static void promise22Bound() {
-        WaveletTiler x = small();
+        WaveletTiler x = Images.small();
         int[] due = {255, 255, 255, 175, 87, 43, 21, 10, 4, 0};
         for (int layers = 0; layers < due.length; layers++) {
             Check.due("bound " + layers, x.worst(layers, 0, true), due[layers]);
@@ -126,7 +115,7 @@ final class DecodingTests {
     }
 
     private static void promise23MeanSquare() {
-        WaveletTiler x = small();
+        WaveletTiler x = Images.small();
         Check.due("meanSquare 2", x.meanSquare(2), 36575.0 / 6.0);
         Check.due("meanSquare 0", x.meanSquare(0), (25.0 + 64.0 + 65025.0 + 1.0 + 4.0) / 6.0);
         Check.due("meanSquare 9", x.meanSquare(9), 0.0);
@@ -141,7 +130,7 @@ final class DecodingTests {
     }
 
     private static void promise24Plan() {
-        WaveletTiler x = small();
+        WaveletTiler x = Images.small();
         int[] budgets = {0, 5, 6, 12, 13, 20, 21, 59, 60, 9999};
         int[] left = {0, 5, 0, 6, 0, 7, 0, 5, 0, 9939};
         int[] layers = {0, 0, 1, 1, 2, 2, 3, 8, 9, 9};

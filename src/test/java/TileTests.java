@@ -181,12 +181,7 @@ final class TileTests {
     }
 
     private static void promise13Soften() {
-        WaveletTiler x = new WaveletTiler();
-        x.size(3, 2);
-        int[] values = {5, 8, 255, 0, 1, 2};
-        for (int i = 0; i < 6; i++) {
-            x.set(i % 3, i / 3, values[i]);
-        }
+        WaveletTiler x = Images.small();
         Check.due("soften 0 9", x.soften(0, 9), 0);
         Check.due("soften that changes nothing is a change", x.number(8), 8);
         Check.due("soften 0 9 leaves the values", x.number(7), 271);
