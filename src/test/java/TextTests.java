@@ -18,12 +18,6 @@ final class TextTests {
         Check.end("TextTests");
     }
 
-    private static void feed(WaveletTiler x, String text) {
-        for (int i = 0; i < text.length(); i++) {
-            x.feed(text.charAt(i));
-        }
-    }
-
     private static void promise26Feed() {
         WaveletTiler x = new WaveletTiler();
         for (int i = 1; i <= 60; i++) {
@@ -39,7 +33,7 @@ final class TextTests {
 
     private static void promise27Read() {
         WaveletTiler x = new WaveletTiler();
-        feed(x, "raAcB=7f;mbAbB;t8;l3;b5;ubBbB");
+        Images.feed(x, "raAcB=7f;mbAbB;t8;l3;b5;ubBbB");
         Check.due("read", x.read(), 6);
         Check.due("read empties the input", x.number(9), 0);
         Check.due("read: a filled pixel", x.pixel(2, 1), 127);
@@ -52,29 +46,29 @@ final class TextTests {
         x.undo();
         Check.due("undone read: the values", x.number(7), 0);
         Check.due("undone read: the side", x.number(2), 4);
-        feed(x, "maAbB;uaAaA");
+        Images.feed(x, "maAbB;uaAaA");
         Check.due("read two masks", x.read(), 2);
         Check.due("read two masks: the mask", x.number(6), 3);
         x.undo();
         Check.due("undone read: the mask", x.number(6), 0);
-        feed(x, "raAhH=ff;raAaA=0a");
+        Images.feed(x, "raAhH=ff;raAaA=0a");
         Check.due("read two fills", x.read(), 2);
         Check.due("read: items in their order", x.number(7), 63 * 255 + 10);
-        feed(x, "raAaA=0a");
+        Images.feed(x, "raAaA=0a");
         Check.due("read what changes nothing", x.read(), 1);
         Check.due("read what changes nothing is a change", x.number(8), 2);
     }
 
     private static void promise27ReadTwentyItems() {
         WaveletTiler x = new WaveletTiler();
-        feed(x, "t2;l0;l1;l2;l3;b0;b1;b2;b3;b4;b5;b6;b7;b8;t4;t2;t8;t4;l2;b1");
+        Images.feed(x, "t2;l0;l1;l2;l3;b0;b1;b2;b3;b4;b5;b6;b7;b8;t4;t2;t8;t4;l2;b1");
         Check.due("read 20 items", x.read(), 20);
         Check.due("read 20 items: the boost", x.number(4), 1);
-        feed(x, "t2;l0;l1;l2;l3;b0;b1;b2;b3;b4;b5;b6;b7;b8;t4;t2;t8;t4;l2;b1;");
+        Images.feed(x, "t2;l0;l1;l2;l3;b0;b1;b2;b3;b4;b5;b6;b7;b8;t4;t2;t8;t4;l2;b1;");
         Check.refused("read 20 items and a semicolon", NO_TEXT, x::read);
         Check.due("fault behind 20 items", x.faultPosition(), 60);
         x.size(16, 16);
-        feed(x, "rpPpP=12;mpPpP;raAaP=9a");
+        Images.feed(x, "rpPpP=12;mpPpP;raAaP=9a");
         Check.due("read in the greatest image", x.read(), 3);
         Check.due("read: the last corner", x.pixel(15, 15), 18);
         Check.due("read: the last row", x.pixel(0, 15), 154);
@@ -82,12 +76,12 @@ final class TextTests {
 
     private static void promise27AllOrNone() {
         WaveletTiler x = new WaveletTiler();
-        feed(x, "raAaA=11;t3");
+        Images.feed(x, "raAaA=11;t3");
         Check.refused("read with a refused item", REFUSED, x::read);
         Check.due("refused read carries nothing out", x.number(7), 0);
         Check.due("refused read is no change", x.number(8), 0);
         Check.due("refused read empties the input", x.number(9), 0);
-        feed(x, "raAaA=11;t3;");
+        Images.feed(x, "raAaA=11;t3;");
         Check.refused("read of no text with a refused item", NO_TEXT, x::read);
         Check.due("no text carries nothing out", x.number(7), 0);
         Check.due("no text is no change", x.number(8), 0);
@@ -105,7 +99,7 @@ final class TextTests {
             {"uaAb", 4}, {"uaAbB;m", 7}, {"t", 1}, {"ta", 1}, {"t;", 1}, {"t44", 2}, {"l2l", 2}, {"b0 ", 2},
             {"b:", 1}, {"b/", 1}, {"l\u0132", 1}, {"\uffff", 0}, {"t2;;", 3}, {"t2;l", 4}, {"ro`", 2}, {"r@", 1}};
         for (Object[] row : due) {
-            feed(x, (String) row[0]);
+            Images.feed(x, (String) row[0]);
             if ((int) row[1] < 0) {
                 Check.due("read " + row[0], x.read(), 1);
             } else {
@@ -118,18 +112,18 @@ final class TextTests {
     private static void promise28FaultPositionStays() {
         WaveletTiler x = new WaveletTiler();
         x.set(0, 0, 1);
-        feed(x, "t2;x");
+        Images.feed(x, "t2;x");
         Check.refused("read", NO_TEXT, x::read);
-        feed(x, "t3");
+        Images.feed(x, "t3");
         Check.refused("read t3", REFUSED, x::read);
         Check.due("it stays when an item is refused", x.faultPosition(), 3);
         x.saveSnapshot();
         x.undo();
         x.restoreSnapshot();
-        feed(x, "t2");
+        Images.feed(x, "t2");
         x.read();
         Check.due("it stays when a text is read", x.faultPosition(), 3);
-        feed(x, "t");
+        Images.feed(x, "t");
         Check.due("it stays while the input grows", x.faultPosition(), 3);
     }
 
@@ -140,7 +134,7 @@ final class TextTests {
             {"rbAaA=01", 2, 0}, {"l0;l1;uaBaA", 2, 2}, {"mpAaA", 1, 0}, {"t0", 3, 0}, {"t1", 3, 0}, {"t3", 3, 0},
             {"t6", 3, 0}, {"t9", 3, 0}, {"l4", 3, 0}, {"b9", 3, 0}, {"t8;b8;l9;t9;rpPpP=00", 3, 2}};
         for (Object[] row : due) {
-            feed(x, (String) row[0]);
+            Images.feed(x, (String) row[0]);
             Check.refused("read " + row[0], REFUSED, x::read);
             Check.due("reason of " + row[0], x.refusal(true), row[1]);
             Check.due("item of " + row[0], x.refusal(false), row[2]);
