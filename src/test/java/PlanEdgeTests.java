@@ -178,6 +178,12 @@ final class PlanEdgeTests {
         duePlan(x, 0, 0, 0, 0);
         x.fill(0, 0, 1, 1, 0);
         duePlan(x, 9999, 9959, 0, 9);
+        WaveletTiler y = pair(255, 255);
+        duePlan(y, 3, 3, 0, 0);
+        y.setting(0, 8);
+        duePlan(y, 9999, 9919, 9);
+        y.setting(0, 2);
+        duePlan(y, 9999, 9919, 9, 9);
     }
 
     /** "The latest plan is kept until the next one, whatever changes." */

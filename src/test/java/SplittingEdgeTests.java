@@ -77,7 +77,7 @@ final class SplittingEdgeTests {
 
     private static final int[] POWERS = {1, 2, 4, 8, 16, 32, 64, 128};
 
-    /** "If n is odd, the last number is the last low number"; an area of 1 row is split in the other direction alone. */
+    /** "If n is odd, the last number is the last low number"; a single row is split in the other direction alone. */
     private static void rowsOfAllLengths() {
         for (int length = 1; length <= 8; length++) {
             WaveletTiler x = Images.black(8 + length, 9, 8, 3);

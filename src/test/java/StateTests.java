@@ -13,6 +13,7 @@ final class StateTests {
     public static void main(String[] args) {
         makingIsFull();
         asksChangeNothing();
+        asksOfOneTileLeaveNothingForAnother();
         refusedCallsChangeNothing();
         refusedEditsKeepTheirRefusal();
         refusedTextsKeepTheirRefusal();
@@ -66,6 +67,45 @@ final class StateTests {
         dueSame("faultPosition", WaveletTiler::faultPosition);
         dueSame("refusal", x -> x.refusal(true));
         dueSame("refusal's number", x -> x.refusal(false));
+    }
+
+    /** What is answered of a tile is the same whichever tile, larger or smaller, was asked of ahead of it. */
+    private static void asksOfOneTileLeaveNothingForAnother() {
+        for (int pattern = 0; pattern < 3; pattern++) {
+            for (int first = 0; first < 4; first++) {
+                for (int second = 0; second < 4; second++) {
+                    WaveletTiler x = patterned(pattern);
+                    answers(x, first);
+                    String text = "pattern " + pattern + ": asks of " + second + " after asks of " + first;
+                    Check.due(text, answers(x, second), answers(patterned(pattern), second));
+                }
+            }
+        }
+    }
+
+    /** Tiles of 8 by 8, of one column, of one row and of one pixel: noise, or stripes in the first tile alone. */
+    private static WaveletTiler patterned(int pattern) {
+        WaveletTiler x = Images.black(9, 9, 8, 3);
+        for (int i = 0; i < 81; i++) {
+            int column = i % 9;
+            int row = i / 9;
+            boolean isStripe = column < 8 && row < 8 && (pattern == 1 ? column : row) % 2 == 0;
+            x.set(column, row, pattern == 0 ? (i * i * 31 + i * 7) % 256 : isStripe ? 255 : 0);
+        }
+        x.mask(2, 2, 8, 4, true);
+        x.setting(2, 3);
+        return x;
+    }
+
+    private static String answers(WaveletTiler x, int tile) {
+        StringBuilder answers = new StringBuilder();
+        for (int number = 0; number <= 8; number++) {
+            answers.append(x.tile(tile, number)).append(' ').append(x.bits(tile, number)).append(' ');
+            answers.append(x.roots(tile, number)).append(' ').append(x.worst(number, tile, true)).append(' ');
+            answers.append(x.worst(number, tile, false)).append(' ').append(x.layerOf(tile, 0, 0, number)).append(' ');
+        }
+        answers.append(x.coefficient(tile, 0, 0)).append(' ').append(x.descendants(tile, 0, 0)).append(' ');
+        return answers.append(x.needed(x.tile(tile, 0), x.tile(tile, 1))).toString();
     }
 
     private static void refusedCallsChangeNothing() {

@@ -13,6 +13,7 @@ final class TreeEdgeTests {
         rootsOfGreatestAmounts();
         rootsAreNoChildrenOfQuietOnes();
         rootsWithoutAParent();
+        rootsOfRowsAndColumns();
         rootsOfFirstAndLastTile();
         neededOfRowsAndColumns();
         neededOfSquares();
@@ -171,6 +172,20 @@ final class TreeEdgeTests {
         Check.due("roots of 5 by 3 with 3 levels", Images.black(13, 11, 8, 3).roots(3, 0), 4);
         Check.due("roots of 5 by 3 with 2 levels", Images.black(13, 11, 8, 2).roots(3, 0), 2);
         Check.due("roots of 5 by 3 with 1 level", Images.black(13, 11, 8, 1).roots(3, 0), 6);
+    }
+
+    /** The rows and columns of powers of 2 whose coefficients SplittingEdgeTests tells. */
+    private static void rootsOfRowsAndColumns() {
+        int[] values = {1, 2, 4, 8, 16, 32, 64, 128};
+        int[][] due = {{0, 1, 1, 1, 1, 2, 2, 2, 2, 2}, {0, 1, 1, 1, 1, 2, 1, 1, 1, 1}, {0, 1, 1, 1, 1, 2, 2, 1, 1, 1}};
+        for (int length = 6; length <= 8; length++) {
+            WaveletTiler x = Images.black(8 + length, 9, 8, 3);
+            Images.paint(x, 3, java.util.Arrays.copyOf(values, length));
+            dueRoots("a row of " + length, x, 3, due[length - 6]);
+            WaveletTiler y = Images.black(9, 8 + length, 8, 3);
+            Images.paint(y, 3, java.util.Arrays.copyOf(values, length));
+            dueRoots("a column of " + length, y, 3, due[length - 6]);
+        }
     }
 
     private static void rootsOfFirstAndLastTile() {

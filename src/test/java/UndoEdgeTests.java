@@ -16,6 +16,7 @@ final class UndoEdgeTests {
         forgottenStaysForgotten();
         undoOfManyChangesInTurn();
         undoBringsBackTheWholePicture();
+        lastOfAllCalls();
         noSnapshot();
         snapshotOfANewObject();
         snapshotInPlaceOfAnEarlierOne();
@@ -316,6 +317,18 @@ final class UndoEdgeTests {
                 Check.due("from " + NAMES[first] + ": undone to " + i, State.picture(maker), pictures[i]);
             }
         }
+    }
+
+    /** "At most 512 calls": the last 8 of them still undo the latest changes of 504. */
+    private static void lastOfAllCalls() {
+        WaveletTiler x = new WaveletTiler();
+        for (int i = 1; i <= 504; i++) {
+            x.set(7, 7, i % 256);
+        }
+        for (int left = 7; left >= 1; left--) {
+            Check.due("undo of 504 changes", x.undo(), left);
+        }
+        Check.due("the last call", x.pixel(7, 7), 497 % 256);
     }
 
     // ---- snapshots
