@@ -72,23 +72,28 @@ final class StateTests {
     /** What is answered of a tile is the same whichever tile, larger or smaller, was asked of ahead of it. */
     private static void asksOfOneTileLeaveNothingForAnother() {
         for (int pattern = 0; pattern < 3; pattern++) {
-            for (int first = 0; first < 4; first++) {
-                for (int second = 0; second < 4; second++) {
-                    WaveletTiler x = patterned(pattern);
-                    answers(x, first);
-                    String text = "pattern " + pattern + ": asks of " + second + " after asks of " + first;
-                    Check.due(text, answers(x, second), answers(patterned(pattern), second));
-                }
+            dueApart(9, pattern);
+            dueApart(11, pattern);
+        }
+    }
+
+    private static void dueApart(int length, int pattern) {
+        for (int first = 0; first < 4; first++) {
+            for (int second = 0; second < 4; second++) {
+                WaveletTiler x = patterned(length, pattern);
+                answers(x, first);
+                String text = length + ", pattern " + pattern + ": asks of " + second + " after asks of " + first;
+                Check.due(text, answers(x, second), answers(patterned(length, pattern), second));
             }
         }
     }
 
-    /** Tiles of 8 by 8, of one column, of one row and of one pixel: noise, or stripes in the first tile alone. */
-    private static WaveletTiler patterned(int pattern) {
-        WaveletTiler x = Images.black(9, 9, 8, 3);
-        for (int i = 0; i < 81; i++) {
-            int column = i % 9;
-            int row = i / 9;
+    /** A tile of 8 by 8 and smaller ones: noise, or stripes in the first tile alone. */
+    private static WaveletTiler patterned(int length, int pattern) {
+        WaveletTiler x = Images.black(length, length, 8, 3);
+        for (int i = 0; i < length * length; i++) {
+            int column = i % length;
+            int row = i / length;
             boolean isStripe = column < 8 && row < 8 && (pattern == 1 ? column : row) % 2 == 0;
             x.set(column, row, pattern == 0 ? (i * i * 31 + i * 7) % 256 : isStripe ? 255 : 0);
         }
