@@ -3,8 +3,12 @@ final class ModelTests {
 
     private static final int RUNS = 600;
 
-    /** An object answers 512 calls; the last step of a run can be a text of 60 characters with what is asked then. */
-    private static final int CALLS = 512 - 64;
+    /** An object answers 512 calls; no step of a run takes more than LONGEST_STEP of them. */
+    private static final int CALLS = 512;
+
+    /** A character more than the input holds, and what is asked then. */
+    private static final int MOST_FED = 61;
+    private static final int LONGEST_STEP = MOST_FED + 4;
 
     private long seed;
     private final WaveletTiler tiler = new WaveletTiler();
@@ -75,7 +79,7 @@ final class ModelTests {
     private void go(int run) {
         resize();
         paint(run % 3);
-        while (call < CALLS) {
+        while (call + LONGEST_STEP <= CALLS) {
             int kind = below(100);
             if (kind < 3) {
                 resize();
@@ -95,6 +99,7 @@ final class ModelTests {
                 askForMore();
             }
         }
+        Check.due(name + call + " is no more than an object answers", call <= CALLS, true);
     }
 
     private void resize() {
@@ -184,6 +189,7 @@ final class ModelTests {
         if (below(3) == 0) {
             spoil(text);
         }
+        text.setLength(Math.min(text.length(), MOST_FED));
         for (int i = 0; i < text.length(); i++) {
             char sign = text.charAt(i);
             same("feed " + sign, () -> tiler.feed(sign), () -> model.feed(sign));

@@ -40,7 +40,8 @@ final class StateTests {
         Check.due("full: the plan", x.planned(0) > 0 && x.planned(3) >= 0, true);
         Check.due("full: the snapshot", x.restoreSnapshot(), 4);
         Check.due("full: the snapshot's values", x.number(7), 15 * 77);
-        Check.due("states that differ are told apart", State.of(FULL).equals(State.of(() -> x)), false);
+        String restored = State.of(Images.with(FULL, WaveletTiler::restoreSnapshot));
+        Check.due("states that differ are told apart", State.of(FULL).equals(restored), false);
     }
 
     private static void dueSame(String text, Consumer<WaveletTiler> call) {

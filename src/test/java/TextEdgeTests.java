@@ -19,6 +19,7 @@ final class TextEdgeTests {
         textsThatEndTooEarly();
         faultsBehindItems();
         faultsOfFullInputs();
+        lastItemsOfLongestTexts();
         noFaultPosition();
         latestFaultIsKept();
         placesOfTheSmallestAndLargestImage();
@@ -197,6 +198,7 @@ final class TextEdgeTests {
         dueFault(x, "ta", 1);
     }
 
+    /** Each of these inputs takes some 60 calls, so that no object reads more than a few of them. */
     private static void faultsOfFullInputs() {
         WaveletTiler x = new WaveletTiler();
         dueFault(x, SIXTY, 59);
@@ -208,10 +210,14 @@ final class TextEdgeTests {
         dueFault(x, "t4;".repeat(19) + "raA", 60);
         dueFault(x, "t4;".repeat(19) + "l;l", 58);
         dueFault(x, "t4;".repeat(19) + "l2?", 59);
+    }
+
+    /** The longest texts, of 59 characters: their last items are carried out as well. */
+    private static void lastItemsOfLongestTexts() {
+        WaveletTiler x = new WaveletTiler();
         dueFault(x, "t4;".repeat(20), 60);
         dueRead(x, "t4;".repeat(19) + "t2", 20);
         Check.due("the last of 20 items", x.number(2), 2);
-        x.size(8, 8);
         dueRead(x, "raAaA=00;".repeat(6) + "maAaA", 7);
         Check.due("the last of 59 characters", x.number(6), 1);
         dueRead(x, "raAaA=00;".repeat(3) + "t4;".repeat(10) + "b7", 14);

@@ -1,3 +1,4 @@
+import java.util.List;
 import java.util.function.Consumer;
 import java.util.function.Supplier;
 
@@ -16,6 +17,7 @@ final class UndoEdgeTests {
         forgottenStaysForgotten();
         undoOfManyChangesInTurn();
         undoBringsBackTheWholePicture();
+        largestPictureIsBroughtBack();
         lastOfAllCalls();
         noSnapshot();
         snapshotOfANewObject();
@@ -316,6 +318,34 @@ final class UndoEdgeTests {
                 maker = Images.with(maker, WaveletTiler::undo);
                 Check.due("from " + NAMES[first] + ": undone to " + i, State.picture(maker), pictures[i]);
             }
+        }
+    }
+
+    /** A white image of 16 by 16, all of it in the mask, and a snapshot of it. */
+    private static WaveletTiler largest() {
+        WaveletTiler x = Images.black(16, 16, 8, 3);
+        x.fill(0, 0, 15, 15, 255);
+        x.mask(0, 0, 15, 15, true);
+        x.saveSnapshot();
+        return x;
+    }
+
+    /** Every pixel and all of the mask, up to the last pixel of the largest image, by undo and from a snapshot. */
+    private static void largestPictureIsBroughtBack() {
+        List<Consumer<WaveletTiler>> changes = List.of(x -> x.size(2, 2), x -> x.size(16, 16),
+                x -> x.fill(0, 0, 15, 15, 0), x -> x.mask(0, 0, 15, 15, false), x -> x.set(15, 15, 0),
+                x -> x.mask(15, 15, 15, 15, false), x -> x.raise(3, -255), x -> x.soften(3, 0), x -> {
+                    Images.feed(x, "raApP=00;uaApP;t2;l0;b8");
+                    x.read();
+                });
+        String due = State.picture(UndoEdgeTests::largest);
+        for (int i = 0; i < changes.size(); i++) {
+            Supplier<WaveletTiler> changed = Images.with(UndoEdgeTests::largest, changes.get(i));
+            Check.due("change " + i + " of the largest image", State.picture(changed).equals(due), false);
+            Check.due("undone change " + i + " of the largest image",
+                    State.picture(Images.with(changed, WaveletTiler::undo)), due);
+            Check.due("change " + i + " of the largest image, and a snapshot",
+                    State.picture(Images.with(changed, WaveletTiler::restoreSnapshot)), due);
         }
     }
 
