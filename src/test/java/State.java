@@ -10,7 +10,7 @@ final class State {
     }
 
     static String of(Supplier<WaveletTiler> maker) {
-        return kept(maker.get()) + plan(maker.get()) + input(maker.get()) + snapshot(maker) + history(maker);
+        return kept(maker) + plan(maker.get()) + input(maker.get()) + snapshot(maker) + history(maker);
     }
 
     /** The state without the input and what is kept of refused calls. */
@@ -18,17 +18,24 @@ final class State {
         return plan(maker.get()) + snapshot(maker) + history(maker);
     }
 
+    /** All but the picture and the changes that can be undone. */
+    static String besidesPicture(Supplier<WaveletTiler> maker) {
+        return kept(maker) + plan(maker.get()) + reading(maker.get()) + snapshot(maker);
+    }
+
     /** The image, the mask and the settings. */
     static String picture(Supplier<WaveletTiler> maker) {
         return values(maker.get()) + mask(maker.get());
     }
 
-    private static String kept(WaveletTiler x) {
-        return "input " + x.number(9) + ", fault " + Check.outcome(x::faultPosition) + ", refusal "
-                + Check.outcome(() -> x.refusal(true)) + " " + Check.outcome(() -> x.refusal(false)) + "\n";
+    /** The length of the input, the fault position and the refusal. */
+    static String kept(Supplier<WaveletTiler> maker) {
+        return "input " + maker.get().number(9) + ", fault " + Check.outcome(() -> maker.get().faultPosition())
+                + ", refusal " + Check.outcome(() -> maker.get().refusal(true)) + " "
+                + Check.outcome(() -> maker.get().refusal(false)) + "\n";
     }
 
-    private static String plan(WaveletTiler x) {
+    static String plan(WaveletTiler x) {
         StringBuilder text = new StringBuilder("plan");
         for (int tile = 0; tile <= 64; tile++) {
             int asked = tile;
@@ -39,10 +46,14 @@ final class State {
 
     /** The characters of the input cannot be asked for: what reading them does tells them apart. */
     private static String input(WaveletTiler x) {
-        return "read " + Check.outcome(x::read) + ", fault " + Check.outcome(x::faultPosition) + "\n" + values(x);
+        return reading(x) + values(x);
     }
 
-    private static String snapshot(Supplier<WaveletTiler> maker) {
+    private static String reading(WaveletTiler x) {
+        return "read " + Check.outcome(x::read) + ", fault " + Check.outcome(x::faultPosition) + "\n";
+    }
+
+    static String snapshot(Supplier<WaveletTiler> maker) {
         String outcome = Check.outcome(() -> maker.get().restoreSnapshot());
         return "snapshot " + outcome + "\n" + picture(() -> {
             WaveletTiler x = maker.get();
@@ -52,7 +63,7 @@ final class State {
     }
 
     /** The picture as it is now, and after each undo that there is. */
-    private static String history(Supplier<WaveletTiler> maker) {
+    static String history(Supplier<WaveletTiler> maker) {
         int changes = maker.get().number(8);
         StringBuilder text = new StringBuilder("changes ").append(changes).append('\n');
         for (int i = 0; i <= changes; i++) {

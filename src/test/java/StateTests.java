@@ -18,8 +18,6 @@ final class StateTests {
         refusedEditsKeepTheirRefusal();
         refusedTextsKeepTheirRefusal();
         faultsAreKept();
-        fullInputRefuses();
-        nothingToUndoOrRestore();
         plansChangeThePlanAlone();
         savingChangesTheSnapshotAlone();
         undoAndRestoreLeaveTheRest();
@@ -196,39 +194,6 @@ final class StateTests {
         dueRead("raAgE=11;t9;", 12, 3, 1);
         dueRead("raAgE=11;uaAgE;t8;l0;b0;mgEgE;raAgE=11;uaAgE;t8;l0;b0;t4;l2;", 60, 3, 1);
         dueRead("raAgE=11x", 8, 3, 1);
-    }
-
-    private static void fullInputRefuses() {
-        Supplier<WaveletTiler> maker = () -> {
-            WaveletTiler x = Images.full();
-            Images.feed(x, ";raAgE=11;uaAgE;t8;l0;b0;mgEgE;t4;l2;b3;t2;l3;b7;");
-            return x;
-        };
-        Check.due("full input", maker.get().number(9), 60);
-        Check.refused("feed in a full input", IllegalStateException.class, () -> maker.get().feed('t'));
-        Check.due("feed in a full input leaves the state", State.of(Images.with(maker, x -> x.feed('t'))),
-                State.of(maker));
-    }
-
-    private static void nothingToUndoOrRestore() {
-        Supplier<WaveletTiler> maker = () -> {
-            WaveletTiler x = new WaveletTiler();
-            x.fill(0, 0, 7, 7, 9);
-            x.undo();
-            x.plan(100);
-            Images.feed(x, "t8");
-            return x;
-        };
-        Check.refused("undo nothing", IllegalStateException.class, () -> maker.get().undo());
-        Check.due("undo nothing leaves the state", State.of(Images.with(maker, WaveletTiler::undo)), State.of(maker));
-        Check.refused("restore nothing", IllegalStateException.class, () -> maker.get().restoreSnapshot());
-        Check.due("restore nothing leaves the state", State.of(Images.with(maker, WaveletTiler::restoreSnapshot)),
-                State.of(maker));
-        Check.refused("no fault position", java.util.NoSuchElementException.class, () -> maker.get().faultPosition());
-        Check.due("no fault position leaves the state", State.of(Images.with(maker, WaveletTiler::faultPosition)),
-                State.of(maker));
-        Check.refused("no refusal", java.util.NoSuchElementException.class, () -> maker.get().refusal(true));
-        Check.due("no refusal leaves the state", State.of(Images.with(maker, x -> x.refusal(true))), State.of(maker));
     }
 
     /** Two makings whose plans differ are the same again when both plan the same. */
